@@ -68,6 +68,9 @@ public final class ClapBank {
     }
 
     public int text(int sort, int at) {
+        // Whatever becomes of it, the tape is taken: also if no text is read.
+        int length = told.length;
+        told.length = 0;
         told.fault = 0;
         told.place = NONE;
         int many = told.howMany(sort);
@@ -75,8 +78,7 @@ public final class ClapBank {
         if (many < 0 || (further && many >= TEXTS) || (!further && (at < 0 || at >= many))) {
             return REFUSED;
         }
-        reader.read(told.tape, told.length, sort);
-        told.length = 0;
+        reader.read(told.tape, length, sort);
         told.fault = reader.fault;
         told.place = reader.place;
         if (reader.fault != 0) {

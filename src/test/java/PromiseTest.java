@@ -78,23 +78,28 @@ public final class PromiseTest {
         String[] two = {"rate 2;", "night;encore;", "heard 2;heard 2;"};
         for (int sort = 0; sort < 3; sort++) {
             due("4: none to replace", Checks.tell(bank, sort, 0, one[sort]), -2);
-            due("4: the tape is not taken", bank.end(1), 1);
+            due("4: taken, if there is none to replace", bank.end(1), NONE);
             due("4: first", Checks.tell(bank, sort, NONE, one[sort]), 0);
             due("4: none to replace", Checks.tell(bank, sort, 1, one[sort]), -2);
             due("4: second", Checks.tell(bank, sort, NONE, ""), 1);
             due("24: count", bank.count(sort), 2);
             due("4: no third", Checks.tell(bank, sort, NONE, one[sort]), -2);
+            due("4: taken, if there are as many as may be", bank.end(1), NONE);
             due("4: replaced", Checks.tell(bank, sort, 0, two[sort]), 0);
             due("4: replaced", Checks.tell(bank, sort, 1, one[sort]), 1);
             due("4: a fault", Checks.tell(bank, sort, 1, "#"), NONE);
             due("4: taken all the same", bank.end(1), NONE);
             due("4: wrong place", Checks.tell(bank, sort, -2, one[sort]), -2);
+            due("4: taken at a wrong place", bank.end(1), NONE);
             due("5: no text, no fault", bank.fault(0), 0);
             due("5: no text, no place", bank.fault(1), NONE);
             due("24: count", bank.count(sort), 2);
         }
-        due("4: no such sort", bank.text(3, NONE), -2);
-        due("4: no such sort", bank.text(-1, NONE), -2);
+        for (int sort : new int[] {3, -1}) {
+            Checks.tape(bank, "night;");
+            due("4: no such sort", bank.text(sort, NONE), -2);
+            due("4: taken as no such sort", bank.feed(0, 0, 0, 0, 0), 20);
+        }
         due("4: first theatre", bank.theatre(0, 2), 2);
         due("4: a fault changes nothing", bank.theatre(1, 2), 1);
         due("4: first book", bank.deed(0, NONE, 0), 2);
