@@ -19,6 +19,16 @@ final class Checks {
         due(call, got ? 1 : 0, want ? 1 : 0);
     }
 
+    /** Takes a text into a new object: its fault and place, 0 and NONE if it has none. */
+    void fault(int sort, String text, int fault, int place) {
+        ClapBank bank = new ClapBank();
+        String of = " of '" + text + "' as sort " + sort;
+        due("4: text" + of, tell(bank, sort, ClapBank.NONE, text), fault == 0 ? 0 : ClapBank.NONE);
+        due("5: fault" + of, bank.fault(0), fault);
+        due("5: place" + of, bank.fault(1), place);
+        due("24: count" + of, bank.count(sort), fault == 0 ? 1 : 0);
+    }
+
     void finish() {
         System.out.println(made + " answers, " + wrong + " not as due");
         if (wrong != 0) {

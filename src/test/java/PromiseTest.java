@@ -176,10 +176,7 @@ public final class PromiseTest {
     }
 
     private static void fault(int sort, String text, int fault, int place) {
-        ClapBank bank = new ClapBank();
-        due("4: '" + text + "'", Checks.tell(bank, sort, NONE, text), fault == 0 ? 0 : NONE);
-        due("5: fault of '" + text + "'", bank.fault(0), fault);
-        due("5: place of '" + text + "'", bank.fault(1), place);
+        checks.fault(sort, text, fault, place);
     }
 
     private static void theatres() {
