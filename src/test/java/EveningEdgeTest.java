@@ -27,6 +27,7 @@ public final class EveningEdgeTest {
         nightByNumbers();
         nightGrowsSaved();
         nightGrowsOwes();
+        nightGrowsEachDebt();
         nightRenews();
         nightOfStarving();
         stateOfWhat();
@@ -38,6 +39,7 @@ public final class EveningEdgeTest {
         needs();
         feastsEmptyAndFull();
         feastsExact();
+        feastsInTurn();
         feastsTied();
         fairs();
         loans();
@@ -390,6 +392,20 @@ public final class EveningEdgeTest {
         due("10: the longest debt", long30.palm(0, 0, 30, 1, 10), owes);
     }
 
+    private static void nightGrowsEachDebt() {
+        for (int p = 0; p < 5; p++) {
+            for (int q = 0; q < 5; q++) {
+                if (p != q) {
+                    ClapBank bank = Checks.bank("palm 9 1;".repeat(5) + "rate 50;", "lend " + q + " " + p + " 2;night;");
+                    due("10: " + p + " owes " + q, bank.palm(0, 0, 1, p, 10 + q), 2);
+                    due("10: " + p + " owes " + q + " more", bank.palm(0, 0, 2, p, 10 + q), 3);
+                    due("10: " + q + " owes " + p + " none", bank.palm(0, 0, 2, q, 10 + p), 0);
+                    due("22: who owes", bank.look(0, 0, 2, 0), p);
+                }
+            }
+        }
+    }
+
     private static void nightRenews() {
         ClapBank bank = Checks.bank("palm 5 1;palm 0 1;palm 99 1;actor 0 9;", "lend 2 1 99;clap 0 0 5;hush 0 2 1;night;");
         int[] before = {0, 99, 0};
@@ -615,6 +631,8 @@ public final class EveningEdgeTest {
         feast("palm 1 2;actor 4 0;", "", 0, 0, 0, 0);
         feast("palm 4 1;actor 4 0;", "", 1, 1, 0, 4);
         feast("palm 3 1;actor 4 0;", "", 0, 0, 0, 0);
+        feast("palm 2 1;palm 0 2;palm 2 1;actor 4 0;", "", 1, 1, 0, 4);
+        feast("palm 1 2;palm 0 1;palm 1 2;actor 4 0;", "", 1, 1, 2, 0);
         feast("palm 1 2;palm 2 1;actor 4 0;", "", 1, 1, 1, 2);
         feast("palm 1 2;palm 1 1;actor 4 0;", "", 0, 0, 0, 0);
         feast("palm 1 2;palm 1 2;actor 3 0;", "", 1, 1, 2, 0);
@@ -624,6 +642,18 @@ public final class EveningEdgeTest {
         feast("palm 2 2;palm 4 1;actor 4 1;", "hush 0 0 1;", 1, 1, 0, 4);
         feast("palm 3 2;actor 6 0;", "clap 0 0 1;", 1, 1, 2, 0);
         feast("palm 2 1;palm 1 2;actor 4 0;", "lend 1 0 1;", 0, 0, 0, 0);
+    }
+
+    /** One state's feast leaves nothing on the table for the next one's. */
+    private static void feastsInTurn() {
+        ClapBank bank = Checks.bank("palm 1 2;palm 1 1;actor 3 1;actor 9 9;", "hush 0 0 1;hush 1 0 1;hush 1 1 1;night;");
+        int[][] want = {{2, 3, 1, 0}, {1, 2, 0, 0}, {1, 2, 0, 1}, {0, 0, 0, 0}, {0, 0, 0, 0}};
+        int[] all = {0, 2, 0, 1, 0, 3, 0, 4, 0};
+        for (int n : all) {
+            for (int what = 0; what < 4; what++) {
+                due("13: in turn, behind " + n + " what " + what, bank.feast(0, 0, n, what), want[n][what]);
+            }
+        }
     }
 
     private static void feastsTied() {
@@ -716,6 +746,7 @@ public final class EveningEdgeTest {
         tip("actor 10 4;chest 0;", 0, 5);
         tip("actor 4 4;actor 4 4;chest 7;", 1, 1);
         tip("actor 4 4;actor 4 4;chest 8;", 1, 0);
+        tip("actor 4 4;actor 4 4;chest 4;", 1, 2);
         tip("actor 4 4;actor 4 4;chest 3;", 1, 3);
         tip("actor 4 3;actor 4 4;chest 4;", 1, 0);
         tip("actor 4 4;actor 4 4;chest 4;", 0, 0);

@@ -20,6 +20,7 @@ public final class RoundsEdgeTest {
         emptyAndFullDarks();
         waysOfNone();
         whoseOfNone();
+        whoseInTurn();
         whoseWithoutWays();
         whoseSureAndMaybe();
         drawnEvenings();
@@ -254,6 +255,21 @@ public final class RoundsEdgeTest {
             }
         }
         due("20: nothing is told", new ClapBank().whose(0, 0, 0, true), -2);
+    }
+
+    /** Each question is of the theatre and the dark that it names, whatever was asked ahead. */
+    private static void whoseInTurn() {
+        ClapBank bank = Checks.bank("palm 1 1;", "");
+        Checks.tell(bank, 0, NONE, "palm 0 1;palm 1 1;palm 1 2;");
+        Checks.tell(bank, 2, NONE, "heard 1;");
+        Checks.tell(bank, 2, NONE, "heard 3;");
+        int[] want = {1, NONE, 2, 6};
+        for (int i = 0; i < 16; i++) {
+            int now = i * 7 % 4;
+            due("20: in turn " + now, bank.whose(now / 2, now % 2, 0, false), want[now]);
+            int next = i * 5 / 3 % 4;
+            due("19: in turn " + next, bank.ways(next / 2, next % 2), want[next] == NONE ? 0 : 1);
+        }
     }
 
     private static void whoseWithoutWays() {

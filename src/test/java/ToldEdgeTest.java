@@ -29,6 +29,7 @@ public final class ToldEdgeTest {
         bytesBetweenDigits();
         rowsOfDigits();
         rowsOfLetters();
+        otherLetters();
         cutTexts();
         numbersTooFewTooMany();
         linesOfOtherSorts();
@@ -288,6 +289,22 @@ public final class ToldEdgeTest {
         fault(0, "rate 1x;", 1, 6);
         fault(0, "rate x1;", 1, 5);
         fault(0, "rate rate;", 1, 5);
+    }
+
+    /** A word with another letter anywhere, the ones next to a and z among them, is no word of a text. */
+    private static void otherLetters() {
+        for (int sort = 0; sort < 3; sort++) {
+            for (String line : LINES[sort]) {
+                for (int at = 0; at < line.length() && isLetter(line.charAt(at)); at++) {
+                    for (char other : new char[] {'a', 'z', 'q'}) {
+                        String text = line.substring(0, at) + other + line.substring(at + 1);
+                        fault(sort, text, text.equals(line) ? 0 : 1, text.equals(line) ? NONE : 0);
+                    }
+                    fault(sort, line.substring(0, at) + '{' + line.substring(at + 1), 1, 0);
+                    fault(sort, line.substring(0, at) + '`' + line.substring(at + 1), 1, 0);
+                }
+            }
+        }
     }
 
     /** Of a line that is cut, the end is where no text goes on, or the word that is none. */
