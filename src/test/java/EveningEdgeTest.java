@@ -648,7 +648,7 @@ public final class EveningEdgeTest {
     private static void feastsInTurn() {
         ClapBank bank = Checks.bank("palm 1 2;palm 1 1;actor 3 1;actor 9 9;", "hush 0 0 1;hush 1 0 1;hush 1 1 1;night;");
         int[][] want = {{2, 3, 1, 0}, {1, 2, 0, 0}, {1, 2, 0, 1}, {0, 0, 0, 0}, {0, 0, 0, 0}};
-        int[] all = {0, 2, 0, 1, 0, 3, 0, 4, 0};
+        int[] all = {0, 3, 2, 3, 0, 4, 2, 4, 1, 2, 0, 1, 0};
         for (int n : all) {
             for (int what = 0; what < 4; what++) {
                 due("13: in turn, behind " + n + " what " + what, bank.feast(0, 0, n, what), want[n][what]);

@@ -20,6 +20,9 @@ public final class LanguageTest {
         face();
         String code = Files.readString(Path.of("src/main/java/ClapBank.java"));
         forbidden(bare(code));
+        library(bare(code));
+        constantRows(bare(code));
+        objectsMade(bare(code));
         lengths(bare(code));
         checks.finish();
     }
@@ -34,6 +37,8 @@ public final class LanguageTest {
             if (!Modifier.isPrivate(m.getModifiers()) && !m.isSynthetic()) {
                 checks.due("public " + m, Modifier.isPublic(m.getModifiers()), true);
                 open.add(m.getName() + ":" + descriptor(m));
+            } else if (!m.isSynthetic()) {
+                checks.due("a private method's name: " + m, names.contains(m.getName()), false);
             }
         }
         checks.due("the face " + open, open.equals(new TreeSet<>(Set.of(FACE.split(" ")))), true);
@@ -85,6 +90,49 @@ public final class LanguageTest {
         }
         Matcher statics = Pattern.compile("static (?!final)[^;({]*[;=]").matcher(code);
         checks.due("static fields are final", statics.find(), false);
+    }
+
+    /** Rule 4: of the library's classes, and of texts, only what it lists. */
+    private static void library(String code) {
+        Matcher calls = Pattern.compile("\\b(Math|Integer|Long|Arrays|System|String|StringBuilder|List|Character)\\.(\\w+)")
+            .matcher(code);
+        Set<String> used = new TreeSet<>();
+        while (calls.find()) {
+            used.add(calls.group(1) + "." + calls.group(2));
+        }
+        used.removeAll(Set.of("Math.min", "Math.max", "Integer.bitCount", "Arrays.fill", "System.arraycopy"));
+        checks.due("other calls of the library " + used, used.size(), 0);
+        Matcher word = Pattern.compile("\\bword\\.(\\w+)").matcher(code);
+        while (word.find()) {
+            checks.due("a text's " + word.group(1), Set.of("length", "charAt").contains(word.group(1)), true);
+        }
+    }
+
+    /** Rule 5: rows that are constants are written out and never changed. */
+    private static void constantRows(String code) {
+        Matcher rows = Pattern.compile("static final \\w+\\[\\] (\\w+) = (.)").matcher(code);
+        int found = 0;
+        while (rows.find()) {
+            found++;
+            checks.due("written out: " + rows.group(1), rows.group(2).equals("{"), true);
+            boolean changed = Pattern.compile(rows.group(1) + "\\[[^\\]]*\\] *([-+*/|&^]?=[^=]|\\+\\+|--)").matcher(code).find();
+            checks.due("never changed: " + rows.group(1), changed, false);
+            boolean handedOut = Pattern.compile("[(,=] *" + rows.group(1) + " *[,;)]").matcher(code).find();
+            checks.due("never handed out: " + rows.group(1), handedOut, false);
+        }
+        checks.due("rows that are constants", found > 0, true);
+    }
+
+    /** The room is one for all calls: objects are made as fields, by the constructor, and once for each image. */
+    private static void objectsMade(String code) {
+        int elsewhere = 0;
+        for (String line : code.split("\n")) {
+            boolean field = line.matches("        private (final )?\\w+(\\[\\])? \\w+ = new .*;");
+            boolean constructor = line.matches("        (told|images|reader|evening|table|rounds|hearing) = new .*;");
+            elsewhere += line.contains("new ") && !field && !constructor ? 1 : 0;
+        }
+        checks.due("made elsewhere: an image alone", elsewhere, 1);
+        checks.due("the image", code.contains("            kept = new Told();"), true);
     }
 
     private static void lengths(String code) {

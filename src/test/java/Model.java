@@ -462,4 +462,100 @@ final class Model {
         }
         return best;
     }
+
+    private static State copy(House house, State s) {
+        State t = new State(house);
+        t.chest = s.chest;
+        t.encores = s.encores;
+        for (int a = 0; a < s.saved.length; a++) {
+            t.saved[a] = s.saved[a];
+            t.starved[a] = s.starved[a];
+        }
+        return t;
+    }
+
+    static int nights(House house, State s, int a) {
+        State t = copy(house, s);
+        int n = 0;
+        while (n < 99) {
+            t.night();
+            if (!t.alive(a)) {
+                break;
+            }
+            n++;
+        }
+        return n;
+    }
+
+    /** Nobody else there, and a chest that holds whatever may be eaten. */
+    static int star(State s, int a) {
+        State t = copy(s.house, s);
+        for (int b = 0; b < t.starved.length; b++) {
+            t.starved[b] = b == a ? -1 : 0;
+        }
+        t.chest = 1_000_000_000;
+        return nights(s.house, t, a);
+    }
+
+    static int tip(State s, int a) {
+        for (int t = 0; t <= 99; t++) {
+            State with = copy(s.house, s);
+            with.give(a, 2L * t);
+            with.night();
+            if (with.alive(a)) {
+                return t;
+            }
+        }
+        return -1;
+    }
+
+    static int dear(State s, int a) {
+        int more = 0;
+        while (more < 99 && s.has(a, s.price(a, more))) {
+            more++;
+        }
+        return more;
+    }
+
+    /** The palm that owes most, all together. */
+    static int loan(State s) {
+        int loan = NONE;
+        long most = 0;
+        for (int p = 0; p < s.left.length; p++) {
+            long sum = Arrays.stream(s.owes[p]).sum();
+            if (sum > most) {
+                loan = p;
+                most = sum;
+            }
+        }
+        return loan;
+    }
+
+    static int idol(State s) {
+        int idol = NONE;
+        long most = 0;
+        for (int a = 0; a < s.saved.length; a++) {
+            long sum = 0;
+            for (long[] row : s.got) {
+                sum += row[a];
+            }
+            if (sum > most) {
+                idol = a;
+                most = sum;
+            }
+        }
+        return idol;
+    }
+
+    /** The first round behind which all asks are as before, and by how many rounds that was earlier. */
+    static int[] stands(int[][] asks) {
+        for (int r = 1; r <= 200 && asks[0].length > 0; r++) {
+            for (int past = r - 1; past >= 0; past--) {
+                if (Arrays.equals(asks[past], asks[r])) {
+                    return new int[] {r, r - past};
+                }
+            }
+        }
+        return new int[] {NONE, NONE};
+    }
 }

@@ -7,6 +7,7 @@ import java.util.Random;
 public final class ModelTest {
     private static final Checks checks = new Checks();
     private static final Random random = new Random(20261118);
+    private static final Texts texts = new Texts(random);
 
     public static void main(String[] args) {
         for (int i = 0; i < 4000; i++) {
@@ -22,89 +23,13 @@ public final class ModelTest {
     }
 
     private static int upTo(int most) {
-        return random.nextInt(most + 1);
-    }
-
-    private static String theatre(boolean small) {
-        StringBuilder b = new StringBuilder();
-        int palms = upTo(5);
-        int actors = upTo(6);
-        int usurers = upTo(4);
-        for (int i = 0; i < palms; i++) {
-            b.append("palm ").append(upTo(small ? 8 : 99)).append(' ').append(1 + upTo(1)).append(';');
-        }
-        for (int i = 0; i < actors; i++) {
-            b.append("actor ").append(upTo(small ? 12 : 40)).append(' ').append(upTo(small ? 40 : 400)).append(';');
-        }
-        for (int i = 0; i < usurers; i++) {
-            int ask = upTo(30);
-            b.append("usurer ").append(ask).append(' ').append(upTo(ask)).append(';');
-        }
-        if (upTo(3) > 0) {
-            b.append("rate ").append(upTo(50)).append(';');
-        }
-        if (upTo(3) > 0) {
-            b.append("chest ").append(upTo(small ? 60 : 999)).append(';');
-        }
-        if (upTo(3) > 0) {
-            b.append("borrow ").append(upTo(20)).append(';');
-        }
-        return b.toString();
-    }
-
-    private static int[] randomDeed(Model.House house) {
-        int palms = Math.max(1, house.palms.size());
-        int actors = Math.max(1, house.actors.size());
-        int p = random.nextInt(palms);
-        int q = random.nextInt(palms);
-        int a = random.nextInt(actors);
-        int many = 1 + upTo(upTo(9) == 0 ? 98 : 4);
-        int kind = upTo(6);
-        if ((kind == 1 || kind == 2) && p == q) {
-            q = (p + 1) % 5;
-        }
-        return switch (kind) {
-            case 0 -> new int[] {0, p, a, many};
-            case 1, 2 -> new int[] {kind, p, q, many};
-            case 3 -> new int[] {3, a, p, many};
-            case 4 -> new int[] {4, a, many, -1};
-            default -> new int[] {kind, -1, -1, -1};
-        };
-    }
-
-    private static String line(int[] deed) {
-        StringBuilder b = new StringBuilder(Model.KINDS.get(deed[0]));
-        for (int j = 1; j < 4 && deed[j] >= 0; j++) {
-            b.append(j == 1 && upTo(5) == 0 ? "\n" : " ").append(deed[j]);
-        }
-        return b.append(';').toString();
-    }
-
-    /** Mostly deeds that can be, so that evenings grow long. */
-    private static String book(Model.House house) {
-        Model.State s = new Model.State(house);
-        StringBuilder b = new StringBuilder();
-        int deeds = upTo(30);
-        for (int k = 0; k < deeds; k++) {
-            int[] deed = randomDeed(house);
-            for (int tries = 0; tries < 20 && !s.can(deed); tries++) {
-                deed = randomDeed(house);
-            }
-            if (!s.can(deed) && upTo(3) > 0) {
-                deed = new int[] {5 + upTo(1), -1, -1, -1};
-            }
-            if (s.can(deed)) {
-                s.act(deed);
-            }
-            b.append(line(deed));
-        }
-        return b.toString();
+        return texts.upTo(most);
     }
 
     private static void tryEvening() {
-        String theatreText = theatre(upTo(2) > 0);
+        String theatreText = texts.theatre(upTo(2) > 0);
         Model.House house = new Model.House(Model.read(0, theatreText));
-        String bookText = book(house);
+        String bookText = texts.book(house);
         List<int[]> deeds = Model.deeds(Model.read(1, bookText));
         ClapBank bank = new ClapBank();
         checks.due("text " + theatreText, Checks.tell(bank, 0, -1, theatreText), 0);
@@ -172,109 +97,37 @@ public final class ModelTest {
     }
 
     private static void comparePalms(ClapBank bank, Model.State s, int n, String of) {
-        int loan = -1;
-        long most = 0;
         for (int p = 0; p < 5; p++) {
             boolean there = p < s.left.length;
             checks.due(of + "left " + p, bank.palm(0, 0, n, p, 0), there ? s.left[p] : -2);
-            long sum = 0;
             for (int q = 0; q < 5; q++) {
                 boolean both = there && q < s.left.length && p != q;
-                sum += both ? s.owes[p][q] : 0;
                 checks.due(of + "owes " + p + q, bank.palm(0, 0, n, p, 10 + q), both ? s.owes[p][q] : -2);
             }
             for (int a = 0; a < 6; a++) {
                 boolean both = there && a < s.saved.length;
                 checks.due(of + "got " + p + a, bank.palm(0, 0, n, p, 20 + a), both ? s.got[p][a] : -2);
             }
-            if (sum > most) {
-                loan = p;
-                most = sum;
-            }
         }
-        checks.due(of + "loan", bank.look(0, 0, n, 0), loan);
+        checks.due(of + "loan", bank.look(0, 0, n, 0), Model.loan(s));
     }
 
     private static void compareActors(ClapBank bank, Model.State s, int n, String of) {
-        int idol = -1;
-        long most = 0;
         for (int a = 0; a < s.saved.length; a++) {
             boolean live = s.alive(a);
             long[] want = {s.saved[a].longValueExact(), live ? 1 : 0, live ? s.price(a, 0) : 0, s.need(a), s.starved[a],
-                live ? nights(s.house, s, a) : 0, live ? star(s, a) : 0, s.storms[a], -2};
+                live ? Model.nights(s.house, s, a) : 0, live ? Model.star(s, a) : 0, s.storms[a], -2};
             for (int what = 0; what < want.length; what++) {
                 checks.due(of + "actor " + a + " " + what, bank.actor(0, 0, n, a, what), want[what]);
             }
-            checks.due(of + "tip " + a, bank.look(0, 0, n, 10 + a), live ? tip(s, a) : -1);
-            checks.due(of + "dear " + a, bank.look(0, 0, n, 20 + a), live ? dear(s, a) : 0);
-            long sum = 0;
-            for (long[] row : s.got) {
-                sum += row[a];
-            }
-            if (sum > most) {
-                idol = a;
-                most = sum;
-            }
+            checks.due(of + "tip " + a, bank.look(0, 0, n, 10 + a), live ? Model.tip(s, a) : -1);
+            checks.due(of + "dear " + a, bank.look(0, 0, n, 20 + a), live ? Model.dear(s, a) : 0);
         }
-        checks.due(of + "idol", bank.look(0, 0, n, 1), idol);
+        checks.due(of + "idol", bank.look(0, 0, n, 1), Model.idol(s));
         int none = s.saved.length;
         checks.due(of + "no actor", bank.actor(0, 0, n, none, 0), -2);
         checks.due(of + "no tip", bank.look(0, 0, n, 10 + none), -2);
         checks.due(of + "no dear", bank.look(0, 0, n, 20 + none), -2);
-    }
-
-    private static Model.State copy(Model.House house, Model.State s) {
-        Model.State t = new Model.State(house);
-        t.chest = s.chest;
-        t.encores = s.encores;
-        for (int a = 0; a < s.saved.length; a++) {
-            t.saved[a] = s.saved[a];
-            t.starved[a] = s.starved[a];
-        }
-        return t;
-    }
-
-    private static int nights(Model.House house, Model.State s, int a) {
-        Model.State t = copy(house, s);
-        int n = 0;
-        while (n < 99) {
-            t.night();
-            if (!t.alive(a)) {
-                break;
-            }
-            n++;
-        }
-        return n;
-    }
-
-    /** Nobody else there, and a chest that holds whatever may be eaten. */
-    private static int star(Model.State s, int a) {
-        Model.State t = copy(s.house, s);
-        for (int b = 0; b < t.starved.length; b++) {
-            t.starved[b] = b == a ? -1 : 0;
-        }
-        t.chest = 1_000_000_000;
-        return nights(s.house, t, a);
-    }
-
-    private static int tip(Model.State s, int a) {
-        for (int t = 0; t <= 99; t++) {
-            Model.State with = copy(s.house, s);
-            with.give(a, 2L * t);
-            with.night();
-            if (with.alive(a)) {
-                return t;
-            }
-        }
-        return -1;
-    }
-
-    private static int dear(Model.State s, int a) {
-        int more = 0;
-        while (more < 99 && s.has(a, s.price(a, more))) {
-            more++;
-        }
-        return more;
     }
 
     private static void compareUsurers(ClapBank bank, Model.House house, String told) {
@@ -287,18 +140,9 @@ public final class ModelTest {
                 checks.due("taken " + i + " " + n + " " + told, bank.taken(0, i, n), i < u ? taken[n][i] : -1);
             }
         }
-        int round = -1;
-        int period = -1;
-        for (int r = 1; r <= 200 && round < 0 && u > 0; r++) {
-            for (int past = 0; past < r; past++) {
-                if (java.util.Arrays.equals(asks[past], asks[r])) {
-                    round = r;
-                    period = r - past;
-                }
-            }
-        }
-        checks.due("stands " + told, bank.stands(0, 0), round);
-        checks.due("period " + told, bank.stands(0, 1), period);
+        int[] stands = Model.stands(asks);
+        checks.due("stands " + told, bank.stands(0, 0), stands[0]);
+        checks.due("period " + told, bank.stands(0, 1), stands[1]);
     }
 
     private static void tryDark() {
@@ -310,15 +154,11 @@ public final class ModelTest {
             sum += hands;
             theatre.append("palm ").append(upTo(4)).append(' ').append(hands).append(';');
         }
-        StringBuilder dark = new StringBuilder();
-        int[] heard = new int[upTo(6)];
-        for (int k = 0; k < heard.length; k++) {
-            heard[k] = upTo(upTo(4) > 0 ? Math.max(0, sum / 2) : 10);
-            dark.append("heard ").append(heard[k]).append(';');
-        }
+        String dark = texts.dark(sum);
+        int[] heard = Model.read(2, dark).lines.stream().mapToInt(line -> Integer.parseInt(line[1])).toArray();
         ClapBank bank = new ClapBank();
         Checks.tell(bank, 0, -1, theatre.toString());
-        checks.due("text " + dark, Checks.tell(bank, 2, -1, dark.toString()), 0);
+        checks.due("text " + dark, Checks.tell(bank, 2, -1, dark), 0);
         List<int[]> ways = Model.ways(new Model.House(Model.read(0, theatre.toString())), heard);
         String of = theatre + " / " + dark;
         checks.due("ways " + of, bank.ways(0, 0), ways.size());
@@ -347,25 +187,11 @@ public final class ModelTest {
         for (int i = 0; i < many; i++) {
             text.append(lines[first[sort] + random.nextInt(first[sort + 1] - first[sort])]);
         }
-        int spoilt = upTo(3);
-        String signs = "0123456789;; \nabclpt#\u00e9\u0000A-";
-        for (int i = 0; i < spoilt && text.length() > 0; i++) {
-            int at = random.nextInt(text.length());
-            char sign = signs.charAt(random.nextInt(signs.length()));
-            switch (upTo(3)) {
-                case 0 -> text.setCharAt(at, sign);
-                case 1 -> text.insert(at, sign);
-                case 2 -> text.deleteCharAt(at);
-                default -> text.setLength(at);
-            }
-        }
-        if (text.length() > 600) {
-            text.setLength(600);
-        }
-        Model.Text read = Model.read(sort, text.toString());
+        String spoilt = texts.spoilt(text.toString());
+        Model.Text read = Model.read(sort, spoilt);
         ClapBank bank = new ClapBank();
-        String of = "text " + sort + " '" + text + "'";
-        checks.due(of, Checks.tell(bank, sort, -1, text.toString()), read.fault == 0 ? 0 : -1);
+        String of = "text " + sort + " '" + spoilt + "'";
+        checks.due(of, Checks.tell(bank, sort, -1, spoilt), read.fault == 0 ? 0 : -1);
         checks.due(of + " fault", bank.fault(0), read.fault);
         checks.due(of + " place", bank.fault(1), read.place);
         checks.due(of + " count", bank.count(sort), read.fault == 0 ? 1 : 0);
