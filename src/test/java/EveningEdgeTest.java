@@ -19,6 +19,7 @@ public final class EveningEdgeTest {
         storms();
         encores();
         noSuchPalmOrActor();
+        noLongerThere();
         starvedOnes();
         stops();
         statesUpToStop();
@@ -241,6 +242,24 @@ public final class EveningEdgeTest {
         stop("palm 1 1;", "clap 0 0 1;", 0);
         stop("actor 1 1;", "clap 0 0 1;", 0);
         stop("", "encore;night;encore;night;", 4);
+    }
+
+    /** What was told before in a theatre's place, or in another one, is not there any more. */
+    private static void noLongerThere() {
+        String[] lines = {"clap 4 0 1;", "clap 0 5 1;", "lend 4 0 1;", "lend 0 4 1;", "hush 5 0 1;", "hush 0 4 1;", "storm 5 1;"};
+        for (String line : lines) {
+            ClapBank bank = Checks.bank(FULL, line);
+            due("8: there", bank.stop(0, 0), 1);
+            Checks.tell(bank, 0, 0, "palm 9 1;actor 1 10;");
+            Checks.tell(bank, 0, NONE, "palm 9 1;actor 1 10;");
+            due("8: no longer there", bank.stop(0, 0), 0);
+            due("8: nor in the other one", bank.stop(1, 0), 0);
+            due("6: no longer there", bank.theatre(0, 14), NONE);
+            due("6: no longer there", bank.theatre(0, 35), NONE);
+            due("10: no longer there", bank.palm(0, 0, 0, 4, 0), -2);
+            due("11: no longer there", bank.actor(0, 0, 0, 5, 0), -2);
+            due("9: no longer there", bank.state(0, 0, 0, 3), 1);
+        }
     }
 
     private static void starvedOnes() {
@@ -500,6 +519,11 @@ public final class EveningEdgeTest {
         for (int what = 0; what < then.length; what++) {
             due("11: of one who starved " + what, starved.actor(0, 0, 2, 0, what), then[what]);
         }
+        ClapBank hungry = Checks.bank("actor 10 100;actor 1 9;chest 9;", "night;");
+        int[] rich = {100, 0, 0, 0, 0, 0, 0, 0};
+        for (int what = 0; what < rich.length; what++) {
+            due("11: of one who starved by the chest " + what, hungry.actor(0, 0, 1, 0, what), rich[what]);
+        }
         ClapBank stormy = Checks.bank("actor 40 1;", "storm 0 3;night;");
         due("11: his storms stay", stormy.actor(0, 0, 2, 0, 7), 6);
         due("11: his savings stay", stormy.actor(0, 0, 2, 0, 0), 7);
@@ -641,6 +665,8 @@ public final class EveningEdgeTest {
         feast("palm 2 2;actor 4 1;", "hush 0 0 1;", 0, 0, 0, 0);
         feast("palm 2 2;palm 4 1;actor 4 1;", "hush 0 0 1;", 1, 1, 0, 4);
         feast("palm 3 2;actor 6 0;", "clap 0 0 1;", 1, 1, 2, 0);
+        feast("palm 3 1;actor 4 0;", "clap 0 0 1;", 0, 0, 0, 0);
+        feast("palm 3 1;actor 3 0;", "clap 0 0 1;", 1, 1, 0, 2);
         feast("palm 2 1;palm 1 2;actor 4 0;", "lend 1 0 1;", 0, 0, 0, 0);
     }
 
@@ -747,6 +773,8 @@ public final class EveningEdgeTest {
         tip("actor 4 4;actor 4 4;chest 7;", 1, 1);
         tip("actor 4 4;actor 4 4;chest 8;", 1, 0);
         tip("actor 4 4;actor 4 4;chest 4;", 1, 2);
+        tip("actor 2 2;actor 10 10;chest 11;", 1, 1);
+        tip("actor 2 1;actor 10 10;chest 11;", 1, 0);
         tip("actor 4 4;actor 4 4;chest 3;", 1, 3);
         tip("actor 4 3;actor 4 4;chest 4;", 1, 0);
         tip("actor 4 4;actor 4 4;chest 4;", 0, 0);
@@ -761,6 +789,10 @@ public final class EveningEdgeTest {
         ClapBank starved = Checks.bank("actor 10 9;actor 1 9;", "night;");
         due("22: tip of one who starved", starved.look(0, 0, 1, 10), NONE);
         due("22: tip of one who lives", starved.look(0, 0, 1, 11), 0);
+        ClapBank gone = Checks.bank("actor 9 99;actor 4 99;chest 5;", "night;storm 1 4;night;");
+        due("22: he ahead starves", gone.look(0, 0, 0, 11), 0);
+        due("22: he ahead starved, with enough saved", gone.look(0, 0, 1, 11), 2);
+        due("22: he ahead starved, and does not eat any more", gone.look(0, 0, 2, 11), 0);
     }
 
     private static void dear(int hunger, int saved, int encores, int want) {
@@ -769,9 +801,10 @@ public final class EveningEdgeTest {
     }
 
     private static void dears() {
-        int[][] rows = {{10, 9, 0, 0}, {10, 10, 0, 1}, {10, 19, 0, 10}, {10, 106, 0, 97}, {10, 107, 0, 98}, {10, 108, 0, 99},
-            {10, 109, 0, 99}, {10, 400, 0, 99}, {0, 0, 0, 99}, {0, 0, 30, 99}, {1, 1, 0, 10}, {1, 1, 9, 1}, {1, 1, 10, 0},
-            {10, 109, 1, 99}, {10, 108, 1, 98}, {10, 108, 30, 69}, {40, 160, 30, 1}, {40, 159, 30, 0}, {9, 9, 0, 2}};
+        int[][] rows = {{10, 0, 0, 0}, {10, 8, 0, 0}, {10, 9, 0, 0}, {10, 10, 0, 1}, {10, 19, 0, 10}, {10, 106, 0, 97},
+            {10, 107, 0, 98}, {10, 108, 0, 99}, {10, 109, 0, 99}, {10, 400, 0, 99}, {0, 0, 0, 99}, {0, 0, 30, 99},
+            {1, 1, 0, 10}, {1, 1, 9, 1}, {1, 1, 10, 0}, {10, 109, 1, 99}, {10, 108, 1, 98}, {10, 108, 30, 69},
+            {40, 160, 30, 1}, {40, 159, 30, 0}, {9, 9, 0, 2}};
         for (int[] row : rows) {
             dear(row[0], row[1], row[2], row[3]);
         }

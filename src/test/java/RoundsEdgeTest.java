@@ -191,6 +191,11 @@ public final class RoundsEdgeTest {
         dark("palm 3 1;palm 4 1;", "heard 1;".repeat(6), 20 + 15);
         dark("palm 2 1;palm 2 1;palm 2 1;", "heard 1;".repeat(6), 90);
         dark("palm 4 1;palm 1 1;palm 1 1;", "heard 1;".repeat(6), 30);
+        dark("palm 9 2;palm 9 1;", "heard 2;heard 2;heard 2;heard 1;heard 1;heard 1;", 1);
+        dark("palm 3 2;palm 3 1;", "heard 2;heard 2;heard 2;heard 1;heard 1;heard 1;", 1);
+        dark("palm 3 2;palm 2 1;", "heard 2;heard 2;heard 2;heard 1;heard 1;heard 1;", 0);
+        dark("palm 2 2;palm 3 1;", "heard 2;heard 2;heard 2;heard 1;heard 1;heard 1;", 0);
+        dark("palm 1 2;palm 9 1;", "heard 3;heard 0;heard 0;heard 1;heard 0;heard 1;", 1);
     }
 
     private static void minutesWithoutSound() {

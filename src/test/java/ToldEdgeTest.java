@@ -51,6 +51,7 @@ public final class ToldEdgeTest {
         imagesOfOtherNumbers();
         imageOfNothing();
         imageOfAll();
+        imagesOfCounts();
         imagesStandAlone();
         checks.finish();
     }
@@ -728,6 +729,31 @@ public final class ToldEdgeTest {
         due("26: the full tape's text", bank.text(1, 0), NONE);
         due("26: the full tape's fault", bank.fault(0), 3);
         due("26: the full tape's place", bank.fault(1), 180);
+    }
+
+    /** How many there are of each sort, all differing, come back as they were. */
+    private static void imagesOfCounts() {
+        int[][] orders = {{0, 1, 2}, {1, 2, 0}, {2, 0, 1}, {0, 2, 1}, {2, 1, 0}, {1, 0, 2}};
+        for (int[] many : orders) {
+            ClapBank bank = new ClapBank();
+            for (int sort = 0; sort < 3; sort++) {
+                for (int i = 0; i < many[sort]; i++) {
+                    Checks.tell(bank, sort, NONE, LINES[sort][0].repeat(i + 1));
+                }
+            }
+            bank.image(0);
+            for (int sort = 0; sort < 3; sort++) {
+                Checks.tell(bank, sort, NONE, "");
+                Checks.tell(bank, sort, NONE, "");
+            }
+            checks.due("26: again", bank.again(0), true);
+            for (int sort = 0; sort < 3; sort++) {
+                due("26: how many of " + sort, bank.count(sort), many[sort]);
+                for (int at = 0; at < 2; at++) {
+                    due("26: each of " + sort, linesOf(bank, sort, at), at < many[sort] ? at + 1 : NONE);
+                }
+            }
+        }
     }
 
     private static void imagesStandAlone() {
