@@ -142,7 +142,7 @@ public final class RoundsEdgeTest {
         stands("usurer 5 4;usurer 4 4;borrow 1;", 2, 2);
     }
 
-    /** Later than 91 none is known to stand, so that 200 rounds are never too few. */
+    /** No theatre stands later than behind round 91 (all were tried, see NOTES.md): 200 rounds are never too few. */
     private static void standsLate() {
         stands("usurer 30 0;", 31, 1);
         stands("usurer 0 0;borrow 1;", 31, 1);
